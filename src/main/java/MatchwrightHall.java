@@ -416,23 +416,13 @@ public final class MatchwrightHall {
             case 2: return values.count;
             case 3: return patterns.count;
             case 4: return cases.count;
-            case 5: return reachedCases();
+            case 5: return search.reachedCases();
             case 6: return search.findsMissing(NONE) ? 1 : 0;
             case 7: return tree.count;
             case 8: return tree.worked;
             case 9: return tree.testNodes();
             default: return missedValues();
         }
-    }
-
-    private int reachedCases() {
-        int reached = 0;
-        for (int number = 0; number < cases.count; number++) {
-            if (search.reaches(number)) {
-                reached++;
-            }
-        }
-        return reached;
     }
 
     private int missedValues() {
@@ -570,7 +560,7 @@ public final class MatchwrightHall {
     private static final class Values {
         int count = 0;
         private final int[] types = new int[MAX_VALUES];
-        private final int[] kinds = new int[MAX_VALUES];
+        private final int[] ofRecords = new int[MAX_VALUES];
         private final int[] numbers = new int[MAX_VALUES];
         private final int[] firsts = new int[MAX_VALUES];
         private final int[] seconds = new int[MAX_VALUES];
@@ -585,7 +575,7 @@ public final class MatchwrightHall {
 
         /** NONE of a NUMBER, and of NULL. */
         int recordOf(int value) {
-            return value >= 0 && value < count ? kinds[value] : NONE;
+            return value >= 0 && value < count ? ofRecords[value] : NONE;
         }
 
         int numberOf(int value) {
@@ -593,7 +583,7 @@ public final class MatchwrightHall {
         }
 
         boolean isNull(int value) {
-            return value >= 0 && value < count && types[value] != NUMBER && kinds[value] == NONE;
+            return value >= 0 && value < count && types[value] != NUMBER && ofRecords[value] == NONE;
         }
 
         int fieldOf(int value, int field) {
@@ -620,7 +610,7 @@ public final class MatchwrightHall {
                 return NONE;
             }
             types[count] = type;
-            kinds[count] = record;
+            ofRecords[count] = record;
             firsts[count] = first;
             seconds[count] = second;
             count++;
@@ -690,12 +680,18 @@ public final class MatchwrightHall {
             return known ? nameTypes[pattern * NAMES + name] : NONE;
         }
 
-        boolean isOfRecord(int pattern, int record) {
-            return kindOf(pattern) == RECORD && headOf(pattern) == record;
+        /** Whether it is that RECORD, or NULL, if that is asked for. */
+        boolean isOfHead(int pattern, int head) {
+            if (pattern < 0 || pattern >= count) {
+                return false;
+            }
+            return head == FOR_NULL ? kinds[pattern] == NULL
+                    : kinds[pattern] == RECORD && heads[pattern] == head;
         }
 
-        boolean hasInRange(int pattern, int number) {
-            return kindOf(pattern) == RANGE && headOf(pattern) <= number && number <= highOf(pattern);
+        boolean isRangeWith(int pattern, int number) {
+            return pattern >= 0 && pattern < count && kinds[pattern] == RANGE
+                    && heads[pattern] <= number && number <= highs[pattern];
         }
 
         boolean shareName(int one, int other) {
@@ -865,7 +861,7 @@ public final class MatchwrightHall {
                             || fits(patterns.rightOf(pattern), value, place, depth + 1);
                 case RANGE:
                     looked |= 1 << place;
-                    return patterns.hasInRange(pattern, values.numberOf(value));
+                    return patterns.isRangeWith(pattern, values.numberOf(value));
                 case NULL:
                     looked |= 1 << place;
                     return values.isNull(value);
@@ -983,8 +979,10 @@ public final class MatchwrightHall {
                 splitRow(from, row, place, patterns.rightOf(pattern), depth + 1);
                 return;
             }
-            copyRow(from, row);
-            setSlot(rows - 1, place, pattern);
+            if (rows < MAX_ROWS) {
+                copyRow(from, row);
+                setSlot(rows - 1, place, pattern);
+            }
         }
 
         /** Becomes what is left of from, if at the place is NULL, that record, or another one. */
@@ -992,21 +990,16 @@ public final class MatchwrightHall {
             beginLike(from);
             columns &= ~(1 << place);
             addFields(place, head);
+            // At the top an open pattern does not match NULL.
+            boolean openToo = head != FOR_NULL || place != TOP;
             for (int row = 0; row < from.rows; row++) {
                 int pattern = from.slotOf(row, place);
-                if (fitsHead(pattern, place, head)) {
+                if (patterns.isOpen(pattern) ? openToo : patterns.isOfHead(pattern, head)) {
                     copyRow(from, row);
                     nameAt(pattern, place);
                     setFields(pattern, place);
                 }
             }
-        }
-
-        private boolean fitsHead(int pattern, int place, int head) {
-            if (patterns.isOpen(pattern)) {
-                return head != FOR_NULL || place != TOP;
-            }
-            return head == FOR_NULL ? patterns.kindOf(pattern) == NULL : patterns.isOfRecord(pattern, head);
         }
 
         private void addFields(int place, int record) {
@@ -1040,7 +1033,7 @@ public final class MatchwrightHall {
             columns &= ~(1 << place);
             for (int row = 0; row < from.rows; row++) {
                 int pattern = from.slotOf(row, place);
-                if (patterns.isOpen(pattern) || patterns.hasInRange(pattern, number)) {
+                if (patterns.isOpen(pattern) || patterns.isRangeWith(pattern, number)) {
                     copyRow(from, row);
                     nameAt(pattern, place);
                 }
@@ -1074,8 +1067,7 @@ public final class MatchwrightHall {
 
         boolean hasHead(int place, int head) {
             for (int row = 0; row < rows; row++) {
-                int pattern = slotOf(row, place);
-                if (!patterns.isOpen(pattern) && fitsHead(pattern, place, head)) {
+                if (patterns.isOfHead(slotOf(row, place), head)) {
                     return true;
                 }
             }
@@ -1348,7 +1340,8 @@ public final class MatchwrightHall {
             }
             int head = values.isNull(value) ? FOR_NULL : values.recordOf(value);
             int others = NONE;
-            for (int branch = 0; branch < tellNode(node, 2); branch++) {
+            int all = tellNode(node, 2);
+            for (int branch = 0; branch < all; branch++) {
                 int label = tellBranch(node, branch, 1);
                 if (label == head) {
                     return tellBranch(node, branch, 0);
@@ -1360,7 +1353,8 @@ public final class MatchwrightHall {
 
         private int nextByNumber(int node, int number) {
             int found = NONE;
-            for (int branch = 0; branch < tellNode(node, 2); branch++) {
+            int all = tellNode(node, 2);
+            for (int branch = 0; branch < all; branch++) {
                 if (tellBranch(node, branch, 1) <= number) {
                     found = tellBranch(node, branch, 0);
                 }
@@ -1404,13 +1398,16 @@ public final class MatchwrightHall {
             if (left.rows == 0) {
                 return leaf(tree, level, MISS);
             }
-            if (left.hasColumn(TOP) && left.typeAt(TOP) != NUMBER) {
-                return test(tree, level, TOP);
-            }
-            if (left.isOpenRow(0)) {
+            boolean sealedTop = left.hasColumn(TOP) && left.typeAt(TOP) != NUMBER;
+            if (!sealedTop && left.isOpenRow(0)) {
                 return takeOrAsk(tree, level);
             }
-            return test(tree, level, placeToTest(left, tree.bySmallest));
+            int place = sealedTop ? TOP : placeToTest(left, tree.bySmallest);
+            level.split.splitEithers(left, place);
+            level.begin(TEST, place, NONE);
+            boolean whole = left.typeAt(place) == NUMBER
+                    ? testNumber(tree, level, place) : testSealed(tree, level, place);
+            return whole ? tree.keep(level) : NONE;
         }
 
         private int leaf(Tree tree, Level level, int kind) {
@@ -1447,14 +1444,6 @@ public final class MatchwrightHall {
             return chosen;
         }
 
-        private int test(Tree tree, Level level, int place) {
-            level.split.splitEithers(level.left, place);
-            level.begin(TEST, place, NONE);
-            boolean whole = level.left.typeAt(place) == NUMBER
-                    ? testNumber(tree, level, place) : testSealed(tree, level, place);
-            return whole ? tree.keep(level) : NONE;
-        }
-
         private boolean testNumber(Tree tree, Level level, int place) {
             if (level.below == null) {
                 return false;
@@ -1471,43 +1460,28 @@ public final class MatchwrightHall {
         }
 
         private boolean testSealed(Tree tree, Level level, int place) {
-            if (level.below == null || !level.lead(nullNode(tree, level, place), FOR_NULL)) {
+            Level below = level.below;
+            if (below == null) {
                 return false;
             }
             boolean all = true;
-            for (int record = 0; record < records.count; record++) {
-                if (level.split.hasHead(place, record)) {
-                    level.below.left.keepHead(level.split, place, record);
-                    if (!level.lead(workOn(tree, level.below), record)) {
-                        return false;
-                    }
-                } else if (records.typeOf(record) == level.left.typeAt(place)) {
-                    all = false;
+            for (int next = FOR_NULL; next <= records.count; next++) {
+                int head = next < records.count ? next : FOR_OTHERS;
+                boolean had = level.split.hasHead(place, head);
+                if (head >= 0 && !had) {
+                    all = all && records.typeOf(head) != level.left.typeAt(place);
+                    continue;
+                }
+                below.left.keepHead(level.split, place, head);
+                boolean refused = head == FOR_NULL && place == TOP && !had;
+                boolean isNew = head == FOR_OTHERS && all && below.left.rows == 0;
+                int node = refused ? leaf(tree, below, REFUSE)
+                        : isNew ? leaf(tree, below, NEW) : workOn(tree, below);
+                if (!level.lead(node, head)) {
+                    return false;
                 }
             }
-            return level.lead(othersNode(tree, level, place, all), FOR_OTHERS);
-        }
-
-        private int nullNode(Tree tree, Level level, int place) {
-            if (level.below == null) {
-                return NONE;
-            }
-            if (place == TOP && !level.split.hasHead(place, FOR_NULL)) {
-                return leaf(tree, level.below, REFUSE);
-            }
-            level.below.left.keepHead(level.split, place, FOR_NULL);
-            return workOn(tree, level.below);
-        }
-
-        private int othersNode(Tree tree, Level level, int place, boolean all) {
-            if (level.below == null) {
-                return NONE;
-            }
-            level.below.left.keepHead(level.split, place, FOR_OTHERS);
-            if (all && level.below.left.rows == 0) {
-                return leaf(tree, level.below, NEW);
-            }
-            return workOn(tree, level.below);
+            return true;
         }
     }
 
@@ -1536,6 +1510,17 @@ public final class MatchwrightHall {
         boolean reaches(int number) {
             begin(cases.patternOf(number), number, NONE);
             return hunt(top);
+        }
+
+        int reachedCases() {
+            int reached = 0;
+            for (int number = 0; number < cases.count; number++) {
+                begin(cases.patternOf(number), number, NONE);
+                if (hunt(top)) {
+                    reached++;
+                }
+            }
+            return reached;
         }
 
         /** Whether something is missing without that case (NONE: with all); false without any other. */
@@ -1599,30 +1584,25 @@ public final class MatchwrightHall {
         }
 
         private boolean huntSealed(Level level, int place) {
-            if (huntHead(level, place, FOR_NULL)) {
-                return true;
-            }
-            // Of heads that no row has the same is left, so that the least of them stands for all.
-            boolean spare = place == TOP || level.split.hasHead(place, FOR_NULL);
-            for (int record = 0; record < records.count; record++) {
-                if (records.typeOf(record) == level.left.typeAt(place)) {
-                    boolean had = level.split.hasHead(place, record);
-                    if ((had || spare) && huntHead(level, place, record)) {
-                        return true;
-                    }
-                    spare = spare && had;
-                }
-            }
-            return false;
-        }
-
-        private boolean huntHead(Level level, int place, int head) {
             if (level.below == null) {
                 return false;
             }
-            level.below.left.keepHead(level.split, place, head);
-            mark(place, head);
-            return hunt(level.below);
+            // Of all heads that no row has the same is left, so that the least one stands for them.
+            boolean spare = true;
+            for (int head = FOR_NULL; head < records.count; head++) {
+                boolean ofType = head == FOR_NULL || records.typeOf(head) == level.left.typeAt(place);
+                boolean had = level.split.hasHead(place, head);
+                if (ofType && (had || spare)) {
+                    level.below.left.keepHead(level.split, place, head);
+                    mark(place, head);
+                    if (hunt(level.below)) {
+                        return true;
+                    }
+                    // NULL at the top is no such head: open rows are left of all others alone.
+                    spare = spare && (had || head == FOR_NULL && place == TOP);
+                }
+            }
+            return false;
         }
 
         private void mark(int place, int head) {
@@ -1633,7 +1613,7 @@ public final class MatchwrightHall {
             forgetBelow(place);
             for (int field = 0; field < 2; field++) {
                 int below = 2 * place + field;
-                int type = head < NUMBERS_FROM - GREATEST ? records.fieldType(head, field) : NONE;
+                int type = records.fieldType(head, field);
                 if (type != NONE && below >= PLACES && below < FOUND_PLACES) {
                     found[below] = type == NUMBER ? NUMBERS_FROM + LEAST : FOR_NULL;
                 }
