@@ -7,6 +7,7 @@ public final class AllValuesTest {
         missingNumbers();
         missingRecords();
         missingDeep();
+        missingBehindAFullRecord();
         nothingMissing();
         counts();
         Due.end();
@@ -146,6 +147,52 @@ public final class AllValuesTest {
         Due.sameText("deeper than any PATTERN", missing(hall), "1=0 2=0 3=901 4=0 5=901 8=-1 9=901");
         hall.add(hall.isRecord(0, any, number), -1, 0);
         Due.sameText("nothing", missing(hall), "");
+    }
+
+    /** What was tried in a RECORD that has nothing MISSING must not be told of the next one. */
+    private static void missingBehindAFullRecord() {
+        MatchwrightHall flat = new MatchwrightHall();
+        flat.type();
+        flat.record(1, 0, 0);
+        flat.record(1, 0, -1);
+        int number = flat.any(0);
+        flat.add(flat.isRecord(0, number, flat.range(-99, 0)), -1, 0);
+        flat.add(flat.isRecord(0, number, flat.range(1, 99)), -1, 0);
+        Due.sameText("a RECORD with a FIELD less", missing(flat), "1=1 2=901");
+        MatchwrightHall hall = new MatchwrightHall();
+        hall.type();
+        hall.record(1, 1, 0);
+        hall.record(1, -1, -1);
+        int all = hall.any(0);
+        int any = hall.any(1);
+        int nothing = hall.isNone(1);
+        int low = hall.range(-99, 0);
+        int high = hall.range(1, 99);
+        hall.add(hall.isRecord(0, nothing, all), -1, 0);
+        hall.add(hall.isRecord(0, hall.isRecord(1, 0, 0), all), -1, 0);
+        hall.add(hall.isRecord(0, hall.isRecord(0, any, low), all), -1, 0);
+        hall.add(hall.isRecord(0, hall.isRecord(0, any, high), all), -1, 0);
+        Due.sameText("a RECORD without FIELDS", missing(hall), "1=1");
+        hall.cut();
+        hall.cut();
+        hall.add(hall.isRecord(0, hall.isRecord(0, nothing, all), all), -1, 0);
+        hall.add(hall.isRecord(0, hall.isRecord(0, any, low), all), -1, 0);
+        hall.add(hall.isRecord(0, hall.isRecord(0, any, high), all), -1, 0);
+        Due.sameText("also deeper", missing(hall), "1=1");
+        MatchwrightHall other = new MatchwrightHall();
+        other.type();
+        other.type();
+        other.record(1, 2, 0);
+        other.record(1, -1, -1);
+        other.record(2, 2, 0);
+        int number2 = other.any(0);
+        int any2 = other.any(2);
+        int nothing2 = other.isNone(2);
+        other.add(other.isRecord(0, nothing2, number2), -1, 0);
+        other.add(other.isRecord(0, other.isRecord(2, nothing2, number2), number2), -1, 0);
+        other.add(other.isRecord(0, other.isRecord(2, any2, other.range(-99, 0)), number2), -1, 0);
+        other.add(other.isRecord(0, other.isRecord(2, any2, other.range(1, 99)), number2), -1, 0);
+        Due.sameText("also below the TOP alone", missing(other), "1=1");
     }
 
     private static void nothingMissing() {
