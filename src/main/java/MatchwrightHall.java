@@ -996,7 +996,6 @@ public final class MatchwrightHall {
                 int pattern = from.slotOf(row, place);
                 if (patterns.isOpen(pattern) ? openToo : patterns.isOfHead(pattern, head)) {
                     copyRow(from, row);
-                    nameAt(pattern, place);
                     setFields(pattern, place);
                 }
             }
@@ -1021,6 +1020,7 @@ public final class MatchwrightHall {
             }
         }
 
+        // Guards ask NUMBERS alone, so that no name on another type is looked for later.
         private void nameAt(int pattern, int place) {
             if (patterns.kindOf(pattern) == NAME) {
                 setSlot(rows - 1, NAMED + patterns.headOf(pattern), place);

@@ -177,6 +177,7 @@ final class Reference {
         List<Rec> recs;
         List<Case> cases;
         boolean smallest;
+        int limit;
 
         int keep(Node node) {
             Integer known = numbers.get(node.text());
@@ -441,8 +442,18 @@ final class Reference {
         return made == null ? -1 : made.all.size();
     }
 
+    /** How many matrices would have to be worked on, if as many as one likes were allowed. */
+    int matrices(boolean smallest) {
+        return nodes(smallest, Integer.MAX_VALUE).worked;
+    }
+
     private Nodes nodes(boolean smallest) {
+        return nodes(smallest, 300);
+    }
+
+    private Nodes nodes(boolean smallest, int limit) {
         Nodes made = new Nodes();
+        made.limit = limit;
         made.type = cases.get(0).pattern.type;
         made.recs = new ArrayList<>(recs);
         made.cases = new ArrayList<>(cases);
@@ -464,7 +475,7 @@ final class Reference {
     }
 
     private static int work(Nodes made, List<Row> rows, TreeMap<Integer, Integer> columns) throws TooMany {
-        if (++made.worked > 300) {
+        if (++made.worked > made.limit) {
             throw new TooMany();
         }
         Node node = new Node();
