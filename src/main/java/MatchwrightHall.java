@@ -1540,7 +1540,6 @@ public final class MatchwrightHall {
         }
 
         private void begin(int wanted, int end, int without) {
-            Arrays.fill(found, ABSENT);
             top.left.beginAtTop(patterns.typeOf(cases.patternOf(0)));
             top.left.addAtTop(WANTED, wanted);
             for (int number = 0; number < end; number++) {

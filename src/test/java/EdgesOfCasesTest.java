@@ -391,6 +391,19 @@ public final class EdgesOfCasesTest {
         Due.same("by the next CASE on the PLACE 3", hall.looks(half), 3);
         hall.add(hall.isRecord(0, nothing, any), -1, 0);
         Due.same("each PLACE counts once", hall.looks(half), 3);
+        MatchwrightHall mixed = new MatchwrightHall();
+        mixed.type();
+        mixed.record(1, 0, 1);
+        mixed.record(1, 1, 0);
+        mixed.number(3);
+        mixed.none(1);
+        mixed.make(0, 0, 1);
+        mixed.make(1, 1, 0);
+        int three = mixed.range(3, 3);
+        mixed.add(mixed.isRecord(0, three, mixed.isNone(1)), -1, 0);
+        Due.same("a RANGE at the PLACE 2, NULL at 3", mixed.looks(2), 3);
+        mixed.add(mixed.isRecord(1, mixed.isNone(1), three), -1, 0);
+        Due.same("NULL at the PLACE 2, a RANGE at 3", mixed.looks(3), 3);
     }
 
     private static void sidesLookedAt() {

@@ -10,6 +10,7 @@ public final class EdgesOfTreesTest {
         whatWasBeforeStays();
         nothingWasBefore();
         endsOfRanges();
+        numbersGoingDown();
         widestNumberTest();
         widestSealedTest();
         deepestWay();
@@ -191,6 +192,22 @@ public final class EdgesOfTreesTest {
         Due.sameText("one with a NUMBER between", treeOf(0, 3, 5, 9),
                 "MISS^0 TAKE0^0 TAKE1^0 TEST1^1(-99:0,0:1,4:0,5:2,10:0)");
         Due.sameText("the same twice", treeOf(0, 3, 0, 3), "MISS^0 TAKE0^0 TEST1^1(-99:0,0:1,4:0)");
+    }
+
+    private static void numbersGoingDown() {
+        int[][] ranges = {{-99, 99}, {-99, -99}, {-98, 99}, {99, 99}, {-99, 98}, {-3, 5}, {0, 0}};
+        int[] numbers = {-99, -98, -4, -3, -1, 0, 1, 5, 6, 98, 99};
+        for (int[] range : ranges) {
+            MatchwrightHall hall = new MatchwrightHall();
+            hall.add(hall.range(range[0], range[1]), -1, 0);
+            hall.compile();
+            for (int number : numbers) {
+                int due = range[0] <= number && number <= range[1] ? 0 : -1;
+                int value = hall.number(number);
+                Due.same(number + " by a tree of " + range[0] + " to " + range[1], hall.down(value), due);
+                Due.same("that is one TEST", hall.tests(value), 1);
+            }
+        }
     }
 
     /** Six cases of three RANGES each, of width NUMBERS; between two there are gap NUMBERS. */
