@@ -11,6 +11,7 @@ public final class EdgesOfAllValuesTest {
         reachedByNull();
         reachedInAField();
         placesOfTheMissing();
+        missingAsFirstQuestion();
         missingNumbers();
         missingBehindEighteenRanges();
         missingRecords();
@@ -138,6 +139,25 @@ public final class EdgesOfAllValuesTest {
             Due.same("a NUMBER has no PLACE " + place, hall.missing(place), -2);
         }
         Due.badArgument("PLACE 64 with CASES", () -> hall.missing(64));
+    }
+
+    /** No earlier question has told the hall what is not there. */
+    private static void missingAsFirstQuestion() {
+        for (int place = 1; place <= 63; place++) {
+            MatchwrightHall none = new MatchwrightHall();
+            Due.same("without CASES first the PLACE " + place, none.missing(place), -2);
+            MatchwrightHall number = new MatchwrightHall();
+            number.add(number.range(-99, -99), -1, 0);
+            Due.same("of a NUMBER first the PLACE " + place, number.missing(place), place == 1 ? 902 : -2);
+            MatchwrightHall bare = new MatchwrightHall();
+            bare.type();
+            bare.record(1, -1, -1);
+            bare.add(bare.isNone(1), -1, 0);
+            Due.same("of a RECORD first the PLACE " + place, bare.missing(place), place == 1 ? 0 : -2);
+            MatchwrightHall full = new MatchwrightHall();
+            full.add(full.any(0), -1, 0);
+            Due.same("of nothing first the PLACE " + place, full.missing(place), -2);
+        }
     }
 
     private static int missingBut(int... had) {

@@ -18,6 +18,7 @@ public final class EdgesOfTreesTest {
         missOfAnEmptyMatrix();
         nullAtTheTop();
         nullInAField();
+        fieldsOfOpenRows();
         newOrOthers();
         weightsOfColumns();
         splitRows();
@@ -408,6 +409,22 @@ public final class EdgesOfTreesTest {
         Due.same("an OPEN ROW has NULL in a FIELD", hall.down(value), 1);
     }
 
+    /** What stands for the FIELDS of an OPEN ROW is ANY: it makes no branch of its own. */
+    private static void fieldsOfOpenRows() {
+        MatchwrightHall hall = new MatchwrightHall();
+        hall.type();
+        hall.record(1, 1, -1);
+        hall.record(1, -1, -1);
+        hall.add(hall.isRecord(0, hall.isRecord(1, 0, 0), 0), -1, 0);
+        hall.add(hall.any(1), -1, 0);
+        hall.compile();
+        Due.sameText("ANY in the FIELD of an OPEN ROW", TreeTest.text(hall),
+                "REFUSE^0 TAKE1^0 TAKE0^0 TEST2^1(-1:1,1:2,-2:1) TEST1^2(-1:0,0:3,-2:1)");
+        hall.none(1);
+        Due.same("it has NULL, but at the TOP", hall.down(hall.make(0, 0, 0)), 1);
+        Due.same("NULL at the TOP", hall.down(0), -2);
+    }
+
     private static void newOrOthers() {
         MatchwrightHall hall = new MatchwrightHall();
         hall.type();
@@ -717,6 +734,27 @@ public final class EdgesOfTreesTest {
         Due.same("many(7)", hall.many(7), 3);
         Due.same("many(8)", hall.many(8), 3);
         Due.same("many(9)", hall.many(9), 1);
+        countsOfASmallerTree();
+    }
+
+    private static void countsOfASmallerTree() {
+        MatchwrightHall hall = new MatchwrightHall();
+        int any = hall.any(0);
+        int least = hall.range(-99, -99);
+        hall.add(hall.range(-99, 99), -1, 0);
+        hall.compile();
+        hall.cut();
+        hall.add(any, -1, 0);
+        for (int times = 0; times < 3; times++) {
+            hall.compile();
+            Due.same("many(7) of a smaller tree", hall.many(7), 1);
+            Due.same("many(8) of a smaller tree", hall.many(8), 1);
+            Due.same("many(9) of a smaller tree", hall.many(9), 0);
+        }
+        hall.cut();
+        hall.add(least, -1, 0);
+        Due.same("nodesBySmallest() of a greater one", hall.nodesBySmallest(), 3);
+        Due.same("many(9) of the tree that stays", hall.many(9), 0);
     }
 
     private static void missedValues() {
